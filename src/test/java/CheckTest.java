@@ -5,7 +5,10 @@ import java.lang.reflect.Field;
 public final class CheckTest {
     public static void main(String[] args) throws ReflectiveOperationException {
         answersZero();
-        findsBrokenTrees();
+        findsBrokenFields();
+        findsARootOutOfPlace();
+        findsANodeWithoutKeys();
+        findsALeafOfTwoKeys();
         Expect.end();
     }
 
@@ -27,30 +30,25 @@ public final class CheckTest {
         Expect.equal("check() when full", Expect.full().check(), 0);
     }
 
-    private static void findsBrokenTrees() throws ReflectiveOperationException {
-        for (String field : new String[] {"size", "total", "first", "height", "low", "high", "value"}) {
+    /** One field at a time, at every depth of the least key's and of the greatest key's side. */
+    private static void findsBrokenFields() throws ReflectiveOperationException {
+        for (String side : new String[] {"low", "high"}) {
             for (int depth = 0; depth <= 8; depth++) {
-                if (!isFreeAt(field, depth)) {
-                    findsBroken(field, depth);
+                for (String field : new String[] {"size", "total", "first", "height", "low", "high"}) {
+                    findsBrokenField(side, depth, field);
                 }
             }
+            findsBrokenField(side, 8, "value");
         }
     }
 
-    /** Only leaves hold a value of the table. */
-    private static boolean isFreeAt(String field, int depth) {
-        return field.equals("value") && depth < 8;
-    }
-
-    private static void findsBroken(String name, int depth) throws ReflectiveOperationException {
+    private static void findsBrokenField(String side, int depth, String name) throws ReflectiveOperationException {
         MeldTree tree = new MeldTree();
-        int v = Expect.table(tree, 0, 1, 90, 2, 200, 3);
-        Field roots = MeldTree.class.getDeclaredField("roots");
-        roots.setAccessible(true);
-        Object root = Array.get(roots.get(tree), v);
+        int v = Expect.table(tree, 0, 1, 90, 2, 200, 3, 255, 4);
+        Object root = root(tree, v);
         Object node = root;
         for (int i = 0; i < depth; i++) {
-            node = field(node, "low").get(node);
+            node = field(node, side).get(node);
         }
         Field field = field(node, name);
         if (field.getType() == int.class) {
@@ -60,11 +58,49 @@ public final class CheckTest {
         } else {
             field.set(node, root);
         }
-        Expect.equal("check() finds a broken " + name + " at depth " + depth, tree.check() > 0 ? 1 : 0, 1);
+        finds(tree, "a broken " + name + ", " + depth + " times " + side);
     }
 
-    private static Field field(Object node, String name) throws ReflectiveOperationException {
-        Field field = node.getClass().getDeclaredField(name);
+    private static void findsARootOutOfPlace() throws ReflectiveOperationException {
+        MeldTree tree = new MeldTree();
+        int v = Expect.table(tree, 0, 1, 200, 2, 255, 3);
+        Object root = root(tree, v - 1);
+        Array.set(roots(tree), v - 1, field(root, "low").get(root));
+        finds(tree, "a root out of place");
+    }
+
+    private static void findsANodeWithoutKeys() throws ReflectiveOperationException {
+        MeldTree tree = new MeldTree();
+        Object root = root(tree, tree.put(0, 5, 0));
+        field(root, "low").set(root, null);
+        field(root, "size").setInt(root, 0);
+        finds(tree, "a node without keys");
+    }
+
+    private static void findsALeafOfTwoKeys() throws ReflectiveOperationException {
+        MeldTree tree = new MeldTree();
+        Object node = root(tree, tree.put(0, 0, 7));
+        for (int depth = 0; depth <= 8; depth++) {
+            field(node, "size").setInt(node, 2);
+            node = field(node, "low").get(node);
+        }
+        finds(tree, "a leaf that counts as two keys");
+    }
+
+    private static void finds(MeldTree tree, String fault) {
+        Expect.equal("check() > 0 for " + fault, tree.check() > 0 ? 1 : 0, 1);
+    }
+
+    private static Object roots(MeldTree tree) throws ReflectiveOperationException {
+        return field(tree, "roots").get(tree);
+    }
+
+    private static Object root(MeldTree tree, int v) throws ReflectiveOperationException {
+        return Array.get(roots(tree), v);
+    }
+
+    private static Field field(Object holder, String name) throws ReflectiveOperationException {
+        Field field = holder.getClass().getDeclaredField(name);
         field.setAccessible(true);
         return field;
     }

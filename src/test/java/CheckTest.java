@@ -1,107 +1,83 @@
-import java.lang.reflect.Array;
-import java.lang.reflect.Field;
+import java.util.NoSuchElementException;
 
-/** Promise 12: check answers 0, and would not if a tree were broken (which reflection does here). */
+/** Promise 12: check. That it would tell of a broken tree: CheckSeesTest. */
 public final class CheckTest {
-    public static void main(String[] args) throws ReflectiveOperationException {
-        answersZero();
-        findsBrokenFields();
-        findsARootOutOfPlace();
-        findsANodeWithoutKeys();
-        findsALeafOfTwoKeys();
+    public static void main(String[] args) {
+        Expect.holds("12: always 0 (at first)", CheckTest::answers0AtFirst);
+        Expect.holds("12: always 0 (after each put, to all 256 KEYS)", CheckTest::answers0AfterPuts);
+        Expect.holds("12: always 0 (after each remove, to no KEYS)", CheckTest::answers0AfterRemoves);
+        Expect.holds("12: always 0 (after each join)", CheckTest::answers0AfterJoins);
+        Expect.holds("12: always 0 (sums above and below all ints)", CheckTest::answers0OfEdgeSums);
+        Expect.holds("12: always 0 (after what throws)", CheckTest::answers0AfterRefusals);
+        Expect.holds("12: always 0 (as the 512th call)", CheckTest::answers0AtTheEnd);
         Expect.end();
     }
 
-    private static void answersZero() {
-        MeldTree tree = new MeldTree();
+    private static void answers0AtFirst() {
+        Expect.equal("check()", new CountedTree().check(), 0);
+    }
+
+    private static void answers0AfterPuts() {
+        CountedTree tree = new CountedTree();
+        for (int v = 0; v < 256; v++) {
+            tree.put(v, v * 37 & 255, v);
+            Expect.equal("check() after put " + v, tree.check(), 0);
+        }
+    }
+
+    private static void answers0AfterRemoves() {
+        CountedTree tree = new CountedTree();
         int v = 0;
-        for (int k = 0; k < 256; k++) {
-            v = tree.put(v, k * 37 & 255, k % 2 == 0 ? Integer.MIN_VALUE : Integer.MAX_VALUE);
-            Expect.equal("check() after put", tree.check(), 0);
+        for (int i = 0; i < 170; i++) {
+            v = tree.put(v, i * 37 & 255, i);
         }
-        for (int k = 0; k < 200; k++) {
-            v = tree.remove(v, k * 91 & 255);
-            Expect.equal("check() after remove", tree.check(), 0);
+        for (int i = 0; i < 170; i++) {
+            v = tree.remove(v, i * 37 & 255);
+            Expect.equal("check() after remove " + i, tree.check(), 0);
         }
-        for (int k = 0; k <= 256; k += 16) {
-            v = tree.join(k, v, k);
-            Expect.equal("check() after join", tree.check(), 0);
-        }
-        Expect.equal("check() when full", Expect.full().check(), 0);
+        Expect.equal("many at the end", tree.many(v, 0, 256), 0);
     }
 
-    /** One field at a time, at every depth of the least key's and of the greatest key's side. */
-    private static void findsBrokenFields() throws ReflectiveOperationException {
-        for (String side : new String[] {"low", "high"}) {
-            for (int depth = 0; depth <= 8; depth++) {
-                for (String field : new String[] {"size", "total", "first", "height", "low", "high"}) {
-                    findsBrokenField(side, depth, field);
-                }
-            }
-            findsBrokenField(side, 8, "value");
+    private static void answers0AfterJoins() {
+        CountedTree tree = new CountedTree();
+        int v = 0;
+        int w = 0;
+        for (int k = 0; k < 256; k += 4) {
+            v = tree.put(v, k, 1);
+            w = tree.put(w, k + 1, 2);
+        }
+        for (int k = 0; k <= 256; k += 2) {
+            tree.join(v, w, k);
+            Expect.equal("check() after join at " + k, tree.check(), 0);
         }
     }
 
-    private static void findsBrokenField(String side, int depth, String name) throws ReflectiveOperationException {
-        MeldTree tree = new MeldTree();
-        int v = Expect.table(tree, 0, 1, 90, 2, 200, 3, 255, 4);
-        Object root = root(tree, v);
-        Object node = root;
-        for (int i = 0; i < depth; i++) {
-            node = field(node, side).get(node);
+    private static void answers0OfEdgeSums() {
+        CountedTree tree = new CountedTree();
+        int most = 0;
+        int least = 0;
+        for (int k = 0; k < 255; k++) {
+            most = tree.put(most, k, Integer.MAX_VALUE);
+            least = tree.put(least, k, Integer.MIN_VALUE);
         }
-        Field field = field(node, name);
-        if (field.getType() == int.class) {
-            field.setInt(node, field.getInt(node) + 1);
-        } else if (field.getType() == long.class) {
-            field.setLong(node, field.getLong(node) + 1);
-        } else {
-            field.set(node, root);
+        Expect.equal("check()", tree.check(), 0);
+    }
+
+    private static void answers0AfterRefusals() {
+        CountedTree tree = Expect.sample();
+        Expect.thrown(tree, "remove(3, 1)", NoSuchElementException.class, t -> t.remove(3, 1));
+        Expect.equal("check() after remove(3, 1)", tree.check(), 0);
+        Expect.thrown(tree, "put(3, 256, 1)", IndexOutOfBoundsException.class, t -> t.put(3, 256, 1));
+        Expect.equal("check() after put(3, 256, 1)", tree.check(), 0);
+        Expect.thrown(tree, "join(3, 4, 257)", IndexOutOfBoundsException.class, t -> t.join(3, 4, 257));
+        Expect.equal("check() after join(3, 4, 257)", tree.check(), 0);
+    }
+
+    private static void answers0AtTheEnd() {
+        CountedTree tree = new CountedTree();
+        for (int v = 0; v < 511; v++) {
+            tree.put(v, v & 255, -v);
         }
-        finds(tree, "a broken " + name + ", " + depth + " times " + side);
-    }
-
-    private static void findsARootOutOfPlace() throws ReflectiveOperationException {
-        MeldTree tree = new MeldTree();
-        int v = Expect.table(tree, 0, 1, 200, 2, 255, 3);
-        Object root = root(tree, v - 1);
-        Array.set(roots(tree), v - 1, field(root, "low").get(root));
-        finds(tree, "a root out of place");
-    }
-
-    private static void findsANodeWithoutKeys() throws ReflectiveOperationException {
-        MeldTree tree = new MeldTree();
-        Object root = root(tree, tree.put(0, 5, 0));
-        field(root, "low").set(root, null);
-        field(root, "size").setInt(root, 0);
-        finds(tree, "a node without keys");
-    }
-
-    private static void findsALeafOfTwoKeys() throws ReflectiveOperationException {
-        MeldTree tree = new MeldTree();
-        Object node = root(tree, tree.put(0, 0, 7));
-        for (int depth = 0; depth <= 8; depth++) {
-            field(node, "size").setInt(node, 2);
-            node = field(node, "low").get(node);
-        }
-        finds(tree, "a leaf that counts as two keys");
-    }
-
-    private static void finds(MeldTree tree, String fault) {
-        Expect.equal("check() > 0 for " + fault, tree.check() > 0 ? 1 : 0, 1);
-    }
-
-    private static Object roots(MeldTree tree) throws ReflectiveOperationException {
-        return field(tree, "roots").get(tree);
-    }
-
-    private static Object root(MeldTree tree, int v) throws ReflectiveOperationException {
-        return Array.get(roots(tree), v);
-    }
-
-    private static Field field(Object holder, String name) throws ReflectiveOperationException {
-        Field field = holder.getClass().getDeclaredField(name);
-        field.setAccessible(true);
-        return field;
+        Expect.equal("check()", tree.check(), 0);
     }
 }

@@ -23,6 +23,12 @@ public final class FaceTest {
         "public int MeldTree.check()");
 
     public static void main(String[] args) {
+        Expect.holds("The public face", FaceTest::showsTheFaceAlone);
+        Expect.holds("The public face: no private method bears the name of a public one", FaceTest::namesDiffer);
+        Expect.end();
+    }
+
+    private static void showsTheFaceAlone() {
         Set<String> seen = new TreeSet<>();
         for (Constructor<?> made : MeldTree.class.getDeclaredConstructors()) {
             addUnlessPrivate(seen, made.getModifiers(), made.toString());
@@ -40,7 +46,16 @@ public final class FaceTest {
             Expect.equal("present: " + member, seen.contains(member) ? 1 : 0, 1);
         }
         Expect.equal("public and final", MeldTree.class.getModifiers(), Modifier.PUBLIC | Modifier.FINAL);
-        Expect.end();
+    }
+
+    private static void namesDiffer() {
+        for (Method hidden : MeldTree.class.getDeclaredMethods()) {
+            for (Method shown : MeldTree.class.getMethods()) {
+                if (Modifier.isPrivate(hidden.getModifiers()) && hidden.getName().equals(shown.getName())) {
+                    Expect.tell("private and public: " + hidden.getName());
+                }
+            }
+        }
     }
 
     private static void addUnlessPrivate(Set<String> seen, int modifiers, String member) {

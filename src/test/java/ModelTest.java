@@ -7,12 +7,11 @@ import java.util.TreeMap;
 /** All promises at once: runs of 512 calls with right and wrong inputs, beside a list of sorted maps. */
 public final class ModelTest {
     private static final int RUNS = 400;
-    private static final int CALLS = 512;
     private static final long NO_INDEX = Long.MIN_VALUE;
     private static final long NO_ELEMENT = Long.MIN_VALUE + 1;
     private static final long OTHER = Long.MIN_VALUE + 2;
 
-    private final MeldTree tree = new MeldTree();
+    private final CountedTree tree = new CountedTree();
     private final List<TreeMap<Integer, Integer>> model = new ArrayList<>();
     private final Random random;
     private final int span;
@@ -28,20 +27,36 @@ public final class ModelTest {
     }
 
     public static void main(String[] args) {
-        for (int seed = 0; seed < RUNS; seed++) {
-            new ModelTest(seed).run(seed);
-        }
+        Expect.holds("1 to 12: all 512 calls", ModelTest::answersAllCalls);
+        Expect.holds("What it is: none ever changes, in long runs", ModelTest::keepsAllVersions);
         Expect.end();
     }
 
-    private void run(int seed) {
-        for (int i = 0; i < CALLS; i++) {
+    private static void answersAllCalls() {
+        for (int seed = 0; seed < RUNS; seed++) {
+            new ModelTest(seed).run(seed, CountedTree.MOST_CALLS);
+        }
+    }
+
+    /** Fewer calls, so that at the end each version can still be asked for within the 512. */
+    private static void keepsAllVersions() {
+        for (int seed = RUNS; seed < 2 * RUNS; seed++) {
+            ModelTest model = new ModelTest(seed);
+            model.run(seed, 300);
+            model.compareVersions(seed);
+        }
+    }
+
+    private void run(int seed, int calls) {
+        for (int i = 0; i < calls; i++) {
             choose();
             long due = due();
             Expect.equal("seed " + seed + ", call " + i + ": op " + op + " of " + a + ", " + b + ", " + c, answer(), due);
         }
-        Expect.equal("seed " + seed + ": versions", tree.versions(), model.size());
-        for (int v = 0; v < model.size(); v++) {
+    }
+
+    private void compareVersions(int seed) {
+        for (int v = 0; v < model.size() && tree.callsLeft() > 0; v++) {
             Expect.equal("seed " + seed + ": digest(" + v + ") at the end", tree.digest(v), digest(model.get(v)));
         }
     }

@@ -1,55 +1,93 @@
 import java.util.NoSuchElementException;
 
-/** Promise 3: remove. */
+/** Promise 3: remove. Where there are 600 versions: LimitTest. */
 public final class RemoveTest {
+    private static final Class<NoSuchElementException> NO_ELEMENT = NoSuchElementException.class;
+    private static final Class<IndexOutOfBoundsException> NO_INDEX = IndexOutOfBoundsException.class;
+
     public static void main(String[] args) {
-        takesOneKeyAway();
-        refusesWrongInput();
-        refusesInTheListedOrder();
+        Expect.holds("3: A VERSION as v without KEY k", RemoveTest::takesOneKeyAway);
+        Expect.holds("3: without its only KEY", RemoveTest::takesTheOnlyKeyAway);
+        Expect.holds("3: KEYS taken away until there is none", RemoveTest::takesManyKeysAway);
+        Expect.holds("3: its number", RemoveTest::answersTheNumber);
+        Expect.holds("3: IndexOutOfBoundsException as by put: no VERSION v", RemoveTest::refusesNoVersion);
+        Expect.holds("3: IndexOutOfBoundsException as by put: no KEY k", RemoveTest::refusesNoKey);
+        Expect.holds("3: NoSuchElementException if v has not this KEY", RemoveTest::refusesAKeyThatItHasNot);
+        Expect.holds("3: NoSuchElementException, last", RemoveTest::refusesThatLast);
         Expect.end();
     }
 
     private static void takesOneKeyAway() {
-        MeldTree tree = new MeldTree();
-        int v = Expect.table(tree, 0, 10, 1, 11, 128, 12, 255, 13);
-        int[] keys = {0, 1, 128, 255};
-        for (int i = 0; i < keys.length; i++) {
-            int k = keys[i];
-            int without = tree.remove(v, k);
-            Expect.equal("remove(v, " + k + ")", without, 5 + i);
-            Expect.equal("many without " + k, tree.many(without, 0, 256), 3);
-            Expect.equal("many of " + k, tree.many(without, k, k + 1), 0);
-            Expect.equal("sum without " + k, tree.sum(without, 0, 256), 46 - 10 - i);
-            Expect.equal("differ without " + k, tree.differ(v, without), 1);
-            Expect.equal("get(v, " + k + ") afterwards", tree.get(v, k), 10 + i);
-            Expect.refused(tree, "remove " + k + " twice", NoSuchElementException.class, () -> tree.remove(without, k));
-        }
-        int single = tree.put(0, 77, 1);
-        int none = tree.remove(single, 77);
-        Expect.equal("digest without the last key", tree.digest(none), 7);
-        Expect.equal("differ without the last key", tree.differ(0, none), 0);
+        CountedTree tree = Expect.sample();
+        Expect.has(tree, "remove(3, 0)", tree.remove(3, 0), 100, 20, 255, -30);
+        Expect.has(tree, "remove(3, 100)", tree.remove(3, 100), 0, 10, 255, -30);
+        Expect.has(tree, "remove(3, 255)", tree.remove(3, 255), 0, 10, 100, 20);
+        Expect.has(tree, "version 3 afterwards", 3, 0, 10, 100, 20, 255, -30);
+        Expect.thrown(tree, "get(5, 0)", NO_ELEMENT, t -> t.get(5, 0));
+        Expect.equal("sum(7, 0, 256)", tree.sum(7, 0, 256), 30);
+    }
+
+    private static void takesTheOnlyKeyAway() {
+        CountedTree tree = Expect.sample();
+        int none = tree.remove(1, 0);
+        Expect.equal("remove(1, 0)", none, 5);
+        Expect.has(tree, "remove(1, 0)", none);
+        Expect.equal("digest", tree.digest(none), 7);
+        Expect.equal("differ(0, none)", tree.differ(0, none), 0);
         Expect.equal("check()", tree.check(), 0);
+        Expect.has(tree, "put into it", tree.put(none, 9, 9), 9, 9);
     }
 
-    private static void refusesWrongInput() {
-        MeldTree tree = new MeldTree();
-        tree.put(0, 5, 7);
-        for (int v : Expect.noVersions(tree)) {
-            Expect.refused(tree, "remove(" + v + ", 5)", IndexOutOfBoundsException.class, () -> tree.remove(v, 5));
+    private static void takesManyKeysAway() {
+        CountedTree tree = new CountedTree();
+        int v = 0;
+        for (int i = 0; i < 120; i++) {
+            v = tree.put(v, i * 37 & 255, 1);
         }
+        for (int i = 0; i < 120; i++) {
+            v = tree.remove(v, i * 37 & 255);
+            Expect.equal("many after " + (i + 1) + " removes", tree.many(v, 0, 256), 119 - i);
+            Expect.equal("sum after " + (i + 1) + " removes", tree.sum(v, 0, 256), 119 - i);
+        }
+        Expect.equal("digest at the end", tree.digest(v), 7);
+        Expect.equal("check() at the end", tree.check(), 0);
+    }
+
+    private static void answersTheNumber() {
+        CountedTree tree = Expect.sample();
+        Expect.equal("remove(3, 255)", tree.remove(3, 255), 5);
+        Expect.equal("remove(5, 100)", tree.remove(5, 100), 6);
+        Expect.equal("remove(3, 255), of an older version", tree.remove(3, 255), 7);
+        Expect.equal("versions()", tree.versions(), 8);
+    }
+
+    private static void refusesNoVersion() {
+        for (int v : Expect.NO_VERSIONS) {
+            Expect.refused("remove(" + v + ", 0)", NO_INDEX, tree -> tree.remove(v, 0));
+        }
+        Expect.thrown(new CountedTree(), "remove(1, 0) at first", NO_INDEX, tree -> tree.remove(1, 0));
+    }
+
+    private static void refusesNoKey() {
         for (int k : Expect.NO_KEYS) {
-            Expect.refused(tree, "remove(1, " + k + ")", IndexOutOfBoundsException.class, () -> tree.remove(1, k));
+            Expect.refused("remove(3, " + k + ")", NO_INDEX, tree -> tree.remove(3, k));
+            Expect.refused("remove(5, " + k + ")", NO_INDEX, tree -> tree.remove(5, k));
         }
-        Expect.refused(tree, "remove(1, 4)", NoSuchElementException.class, () -> tree.remove(1, 4));
-        Expect.refused(tree, "remove(0, 5)", NoSuchElementException.class, () -> tree.remove(0, 5));
-        Expect.equal("remove(1, 5) after refusals", tree.remove(1, 5), 2);
     }
 
-    private static void refusesInTheListedOrder() {
-        MeldTree tree = Expect.full();
-        Expect.refused(tree, "remove(599, 1) when full", IllegalStateException.class, () -> tree.remove(599, 1));
-        Expect.refused(tree, "remove(599, 2) when full", IllegalStateException.class, () -> tree.remove(599, 2));
-        Expect.refused(tree, "remove(600, 1) when full", IndexOutOfBoundsException.class, () -> tree.remove(600, 1));
-        Expect.refused(tree, "remove(599, 256) when full", IndexOutOfBoundsException.class, () -> tree.remove(599, 256));
+    private static void refusesAKeyThatItHasNot() {
+        for (int k : new int[] {1, 99, 101, 127, 128, 254}) {
+            Expect.refused("remove(3, " + k + ")", NO_ELEMENT, tree -> tree.remove(3, k));
+        }
+        Expect.refused("remove(0, 0), which 1 has", NO_ELEMENT, tree -> tree.remove(0, 0));
+        Expect.refused("remove(1, 100), which 2 has", NO_ELEMENT, tree -> tree.remove(1, 100));
+        Expect.refused("remove(4, 0), for the second time", NO_ELEMENT, tree -> tree.remove(4, 0));
+    }
+
+    private static void refusesThatLast() {
+        Expect.refused("remove(5, 1)", NO_INDEX, tree -> tree.remove(5, 1));
+        Expect.refused("remove(-1, 1)", NO_INDEX, tree -> tree.remove(-1, 1));
+        Expect.refused("remove(0, -1)", NO_INDEX, tree -> tree.remove(0, -1));
+        Expect.refused("remove(0, 256)", NO_INDEX, tree -> tree.remove(0, 256));
     }
 }

@@ -1,4 +1,4 @@
-/** Promise 4: join. Where there are 600 versions: LimitTest. */
+/** Promise 4: join. Where there are 600 versions: FullTest. */
 public final class JoinTest {
     private static final Class<IndexOutOfBoundsException> NO_INDEX = IndexOutOfBoundsException.class;
 

@@ -1,6 +1,6 @@
 import java.util.NoSuchElementException;
 
-/** Promise 2: put. Where there are 600 versions: LimitTest. */
+/** Promise 2: put. Where there are 600 versions: FullTest. */
 public final class PutTest {
     private static final Class<NoSuchElementException> NO_ELEMENT = NoSuchElementException.class;
     private static final Class<IndexOutOfBoundsException> NO_INDEX = IndexOutOfBoundsException.class;

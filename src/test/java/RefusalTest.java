@@ -1,6 +1,6 @@
 import java.util.NoSuchElementException;
 
-/** What promise 1 says of exceptions. Where there are 600 versions: LimitTest. */
+/** What promise 1 says of exceptions. Where there are 600 versions: FullTest. */
 public final class RefusalTest {
     private static final Class<NoSuchElementException> NO_ELEMENT = NoSuchElementException.class;
     private static final Class<IndexOutOfBoundsException> NO_INDEX = IndexOutOfBoundsException.class;

@@ -1,6 +1,6 @@
 import java.util.NoSuchElementException;
 
-/** Promise 11: versions. Where there are 600 versions: LimitTest. */
+/** Promise 11: versions. Where there are 600 versions: FullTest. */
 public final class VersionsTest {
     public static void main(String[] args) {
         Expect.holds("11: How many VERSIONS there are (at first)", VersionsTest::answers1AtFirst);
